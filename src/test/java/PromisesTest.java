@@ -428,7 +428,18 @@ public final class PromisesTest {
         MessageCoder rising = new MessageCoder();
         weigh(rising, 1, 1, 2, 4, 8, 16, 32, 64);
         same("rising", lengthsOf(rising), "77654321");
+        checkTies("34224434", 3, 2, 4, 4, 2, 1, 3, 1);
+        checkTies("42444233", 2, 4, 2, 1, 1, 4, 2, 2);
+        checkTies("32532543", 4, 4, 1, 2, 4, 1, 1, 2);
+        checkTies("45333522", 2, 1, 4, 2, 2, 1, 4, 4);
         refusesSymbols(rising::codeLength);
+    }
+
+    /** Weights whose lengths are others if equal groups are ordered by anything but their first symbols. */
+    private static void checkTies(String due, int... weights) {
+        MessageCoder coder = new MessageCoder();
+        weigh(coder, weights);
+        same("equal groups", lengthsOf(coder), due);
     }
 
     static void promise15() {
@@ -934,6 +945,17 @@ public final class PromisesTest {
         post(coder, "cabbage", 2);
         same("busy", coder.isConsistent(), true);
         same("queue left", queueOf(coder), "2 0");
+        MessageCoder full = withLongCodes();
+        for (int n = 0; n < 9; n++) {
+            post(full, "hhhhhhhhhhhhhhhh", 1 + n % 5);
+            if (n == 0) {
+                full.send();
+            }
+        }
+        full.flip(0);
+        full.flip(195);
+        same("full", full.isConsistent(), true);
+        same("full queue left", full.messageCount() * 1000 + full.frameLength(), 8196);
     }
 
     // ---- Line ----
@@ -1167,6 +1189,11 @@ public final class PromisesTest {
         fails("failing run", STATE, coder::run);
         type(coder, "clear;");
         fails("malformed run", ARGUMENT, coder::run);
+        fails("no symbol", ARGUMENT, () -> coder.addSymbol('i'));
+        fails("no weight", ARGUMENT, () -> coder.setWeight('a', 0));
+        fails("no priority", ARGUMENT, () -> coder.post(0));
+        fails("no message", ELEMENT, () -> coder.drop(9));
+        fails("no bit", INDEX, () -> coder.flip(0));
         coder.formatCode('a');
         coder.isConsistent();
         coder.save();
@@ -1236,7 +1263,53 @@ public final class PromisesTest {
         run(each, "receive;draft a;post 1;weight a=99");
         each.undo();
         same("run", queueOf(each) + each.totalWeight() + frameOf(each), "81110110");
+        checkUndoneWeights();
+        checkUndoneFrames();
+        checkUndoAfterFailing();
         checkLeftByUndo();
+    }
+
+    private static void checkUndoneWeights() {
+        MessageCoder coder = withTies();
+        coder.setWeight('a', 99);
+        coder.undo();
+        same("lengths", lengthsOf(coder), "56643222");
+        same("order", orderOf(coder), "fghedabc");
+        same("codes", codeOf(coder, 'a') + codeOf(coder, 'h'), "1111010");
+        same("cost", coder.cost(), 921);
+    }
+
+    /** The earlier frame comes back with its message and its codes. */
+    private static void checkUndoneFrames() {
+        MessageCoder coder = withLongCodes();
+        post(coder, "hhhhhhhhhhhhhhhh", 5);
+        post(coder, "abc", 1);
+        coder.send();
+        coder.flip(100);
+        String before = frameOf(coder);
+        weigh(coder, 1, 1, 1);
+        coder.send();
+        coder.undo();
+        same("frame", frameOf(coder), before);
+        same("intact", coder.isIntact(), true);
+        coder.receive();
+        same("received", receivedOf(coder), "hhhhhhhhhhhhhhhh");
+    }
+
+    /** A change that fails takes nothing from the eight that can be undone. */
+    private static void checkUndoAfterFailing() {
+        MessageCoder coder = new MessageCoder();
+        for (int weight = 2; weight <= 9; weight++) {
+            coder.setWeight('a', weight);
+        }
+        fails("no frame", ELEMENT, coder::receive);
+        type(coder, "weight a=50;send");
+        fails("failing run", STATE, coder::run);
+        for (int weight = 8; weight >= 1; weight--) {
+            coder.undo();
+            same("weight after failing changes", coder.weightOf('a'), weight);
+        }
+        fails("no more", STATE, coder::undo);
     }
 
     private static void checkLeftByUndo() {
