@@ -709,7 +709,7 @@ public final class MessageCoder {
             }
         }
 
-        /** Groups are looked at by their first symbols in the alphabet's order, so the first of equals is the lowest. */
+        /** Groups are looked at in the order of their first symbols, so the first of equals is the lowest. */
         private int lowestGroup(int besides) {
             int lowest = NONE;
             for (int g = 0; g < SYMBOLS; g++) {
