@@ -806,6 +806,8 @@ public final class MessageCoder {
 
     /** The least sum over all ways to divide the symbols, ordered by weight, into ranges. */
     private static final class Ranges {
+        private static final int MORE_THAN_ANY_SUM = 1 << 30;
+
         private final int[] sorted = new int[SYMBOLS];
         private final int[][] least = new int[SYMBOLS][SYMBOLS];
 
@@ -831,7 +833,7 @@ public final class MessageCoder {
 
         private void divide(int from, int to) {
             int sum = sorted[to];
-            int best = Integer.MAX_VALUE;
+            int best = MORE_THAN_ANY_SUM;
             for (int last = from; last < to; last++) {
                 sum += sorted[last];
                 best = Math.min(best, least[from][last] + least[last + 1][to]);

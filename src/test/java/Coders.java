@@ -183,4 +183,20 @@ abstract class Coders {
         fails("end of the line", INDEX, () -> coder.lineChar(length));
         return line.toString();
     }
+
+    /** Everything that changes can change, but for the next id, which only a post tells. */
+    static String stateOf(MessageCoder coder) {
+        StringBuilder state = new StringBuilder();
+        for (char symbol : orderOf(coder).toCharArray()) {
+            state.append(symbol).append(codeOf(coder, symbol)).append(':').append(coder.weightOf(symbol)).append(' ');
+        }
+        state.append(coder.cost()).append(" draft ").append(draftOf(coder)).append(" queue ");
+        for (int rank = 0; rank < coder.messageCount(); rank++) {
+            int id = coder.messageAt(rank);
+            state.append(id).append('!').append(coder.priorityOf(id)).append(':').append(textOf(coder, id)).append(' ');
+        }
+        return state + "frame " + frameOf(coder) + " " + Check.outcome(coder::isIntact) + " received " + receivedOf(coder)
+                + " totals " + coder.sentTotal() + " " + coder.receivedTotal() + " " + coder.correctedTotal() + " "
+                + coder.failedTotal();
+    }
 }

@@ -76,20 +76,18 @@ final class ProgramsBoundaries extends Boundaries {
             same("text", receivedOf(coder) + coder.messageCount() + coder.weightOf('c') + coder.draftLength(), "ha020");
         });
         says("Either all commands are executed or none.", () -> {
-            MessageCoder coder = withFrame("hh");
-            post(coder, "ab", 2);
-            draft(coder, "c");
             String[] failing = {"weight a=9;drop 0", "draft ab;drop 0", "clear;drop 0", "post 1;drop 0",
                 "drop 1;drop 1", "hurry 1 5;drop 0", "learn 1;drop 0", "send;drop 1", "flip 0;flip 14",
                 "receive;receive", "weight a=9;draft abcdefghabcdefgh;send", "clear;draft abcdefghabcdefgha"};
             for (String program : failing) {
+                MessageCoder coder = withFrame("hh");
+                post(coder, "ab", 2);
+                draft(coder, "c");
+                String before = stateOf(coder);
                 fails(coder, program, STATE);
-                same("none of " + program, coder.totalWeight() + draftOf(coder) + queueOf(coder) + coder.priorityOf(1)
-                        + frameOf(coder) + coder.receivedLength() + coder.sentTotal() + coder.receivedTotal(),
-                        "8" + "c" + "1" + "2" + "11111110111100" + "010");
-                same("codes of " + program, coder.codeLength('a'), 3);
+                same("none of " + program, stateOf(coder), before);
+                same("next id", coder.post(1), 2);
             }
-            same("next id", coder.post(1), 2);
         });
         says("The buffer is empty afterwards, even if an exception is thrown.", () -> {
             MessageCoder coder = new MessageCoder();
@@ -299,16 +297,6 @@ final class ProgramsBoundaries extends Boundaries {
         return coder;
     }
 
-    private static String everythingOf(MessageCoder coder) {
-        StringBuilder all = new StringBuilder(lengthsOf(coder) + " " + coder.totalWeight() + " " + draftOf(coder) + " ");
-        for (int rank = 0; rank < coder.messageCount(); rank++) {
-            int id = coder.messageAt(rank);
-            all.append(id).append(textOf(coder, id)).append(coder.priorityOf(id)).append(' ');
-        }
-        return all + frameOf(coder) + " " + receivedOf(coder) + " " + coder.sentTotal() + coder.receivedTotal()
-                + coder.correctedTotal() + coder.failedTotal();
-    }
-
     /** Changes everything that changes can change. */
     private static void changeAll(MessageCoder coder) {
         coder.receive();
@@ -328,14 +316,13 @@ final class ProgramsBoundaries extends Boundaries {
         section("Promise 62");
         says("Saves a copy of everything that changes can change", () -> {
             MessageCoder coder = withEverything();
-            String before = everythingOf(coder);
-            same("to be saved", before, "44444431 47 cd 2ab2 0001000 dh 2111");
+            String before = stateOf(coder);
             coder.save();
-            same("saving changes nothing", everythingOf(coder), before);
+            same("saving changes nothing", stateOf(coder), before);
             changeAll(coder);
-            same("all changed", everythingOf(coder).equals(before), false);
+            same("all changed", stateOf(coder).equals(before), false);
             coder.restore();
-            same("all back", everythingOf(coder), before);
+            same("all back", stateOf(coder), before);
             same("next id", coder.post(1), 3);
             coder.undo();
             weigh(coder, 9, 8, 7, 6, 5, 4, 3, 2);
@@ -366,15 +353,15 @@ final class ProgramsBoundaries extends Boundaries {
         section("Promise 63");
         says("Restores the saved copy, which stays available.", () -> {
             MessageCoder coder = withEverything();
-            String before = everythingOf(coder);
+            String before = stateOf(coder);
             coder.save();
             for (int n = 0; n < 3; n++) {
                 changeAll(coder);
                 coder.restore();
-                same("restored", everythingOf(coder), before);
+                same("restored", stateOf(coder), before);
             }
             coder.restore();
-            same("restored at once", everythingOf(coder), before);
+            same("restored at once", stateOf(coder), before);
         });
         says("No changes can be undone afterwards.", () -> {
             MessageCoder coder = new MessageCoder();

@@ -955,10 +955,13 @@ public final class PromisesTest extends Coders {
             {"send;Send", "5"}, {"send ;send", "4"}, {"send,send", "4"}, {"flip -1", "5"}, {"flip 1;", "7"},
             {"receivee", "7"}, {"receiv", "6"}, {"post 1;post 22", "13"}};
         for (String[] one : malformed) {
-            type(coder, one[0]);
-            fails(one[0], ARGUMENT, coder::run);
-            same(one[0], coder.errorPosition(), Integer.parseInt(one[1]));
+            MessageCoder another = new MessageCoder();
+            type(another, one[0]);
+            fails(one[0], ARGUMENT, another::run);
+            same(one[0], another.errorPosition(), Integer.parseInt(one[1]));
         }
+        type(coder, "post 1;post 22");
+        fails("malformed", ARGUMENT, coder::run);
         run(coder, "clear");
         same("latest malformed", coder.errorPosition(), 13);
         type(coder, "send");
@@ -1113,11 +1116,11 @@ public final class PromisesTest extends Coders {
         post(coder, "abc", 1);
         coder.send();
         coder.flip(100);
-        String before = frameOf(coder);
         weigh(coder, 1, 1, 1);
         coder.send();
         coder.undo();
-        same("frame", frameOf(coder), before);
+        same("frame's length", coder.frameLength(), 196);
+        same("flipped bit", coder.syndrome(14), 3);
         same("intact", coder.isIntact(), true);
         coder.receive();
         same("received", receivedOf(coder), "hhhhhhhhhhhhhhhh");
@@ -1198,13 +1201,13 @@ public final class PromisesTest extends Coders {
         coder.flip(1);
         draft(coder, "cd");
         coder.save();
-        String before = everything(coder);
+        String before = stateOf(coder);
         coder.receive();
         run(coder, "weight a=90;post 5;draft e;send;hurry 1 4;learn 1;drop 1");
-        same("changed", everything(coder).equals(before), false);
+        same("changed", stateOf(coder).equals(before), false);
         for (int n = 0; n < 2; n++) {
             same("restored", coder.restore(), 1);
-            same("everything", everything(coder), before);
+            same("everything", stateOf(coder), before);
             same("nothing to undo", coder.undoableCount(), 0);
             fails("undo", STATE, coder::undo);
             coder.receive();
@@ -1214,18 +1217,12 @@ public final class PromisesTest extends Coders {
         coder.restore();
         same("next id", coder.post(1), 2);
         coder.undo();
-        same("undo after a restore", everything(coder), before);
+        same("undo after a restore", stateOf(coder), before);
         MessageCoder frame = withFrame("hh");
         frame.save();
         frame.receive();
         frame.restore();
         frame.receive();
         same("received", receivedOf(frame) + frame.receivedTotal(), "hh1");
-    }
-
-    private static String everything(MessageCoder coder) {
-        return lengthsOf(coder) + coder.totalWeight() + draftOf(coder) + "/" + queueOf(coder) + "/" + frameOf(coder)
-                + "/" + receivedOf(coder) + "/" + coder.sentTotal() + coder.receivedTotal() + coder.correctedTotal()
-                + coder.failedTotal();
     }
 }

@@ -45,7 +45,11 @@ public final class RandomRunsTest {
         }
     }
 
+    /** After the last call that the document promises, the answers are free. */
     private void both(String call, Check.Call ofCoder, Check.Call ofModel) {
+        if (told.size() == CALLS) {
+            return;
+        }
         told.add(call);
         Check.same(call + " as call " + told.size(), Check.outcome(ofCoder), Check.outcome(ofModel));
     }

@@ -42,7 +42,7 @@ final class UndoBoundaries extends Boundaries {
     private static void changes() {
         section("Undo");
         says("The calls of the methods to which commands correspond, and of run, that return normally are changes", () -> {
-            counts("setWeight", new MessageCoder(), coder -> coder.setWeight('a', 9));
+            counts("setWeight", new MessageCoder(), coder -> coder.setWeight('h', 9));
             counts("addSymbol", new MessageCoder(), coder -> coder.addSymbol('a'));
             counts("clearDraft", drafted("h"), MessageCoder::clearDraft);
             counts("post", drafted("h"), coder -> coder.post(2));
@@ -50,6 +50,9 @@ final class UndoBoundaries extends Boundaries {
             counts("setPriority", withMessage("ab"), coder -> coder.setPriority(0, 5));
             counts("learn", withMessage("ab"), coder -> coder.learn(0));
             counts("send", withMessage("ab"), MessageCoder::send);
+            MessageCoder replacing = withFrame("h");
+            post(replacing, "ca", 1);
+            counts("send over an earlier frame", replacing, MessageCoder::send);
             counts("flip", withFrame("a"), coder -> coder.flip(0));
             counts("receive", withFrame("a"), MessageCoder::receive);
             MessageCoder running = withFrame("a");
@@ -198,18 +201,7 @@ final class UndoBoundaries extends Boundaries {
 
     /** All that can be asked, but for the error position and the failed command, which a refused run stores. */
     private static String wholeOf(MessageCoder coder) {
-        StringBuilder whole = new StringBuilder();
-        for (char symbol : SYMBOLS.toCharArray()) {
-            whole.append(coder.weightOf(symbol)).append(codeOf(coder, symbol)).append(' ');
-        }
-        whole.append(draftOf(coder)).append('/');
-        for (int rank = 0; rank < coder.messageCount(); rank++) {
-            int id = coder.messageAt(rank);
-            whole.append(id).append('!').append(coder.priorityOf(id)).append(':').append(textOf(coder, id)).append(' ');
-        }
-        return whole + "/" + coder.hasFrame() + frameOf(coder) + "/" + receivedOf(coder) + "/" + coder.sentTotal() + ","
-                + coder.receivedTotal() + "," + coder.correctedTotal() + "," + coder.failedTotal() + "/" + lineOf(coder)
-                + "/" + coder.undoableCount();
+        return stateOf(coder) + " " + lineOf(coder) + " " + coder.undoableCount();
     }
 
     private static String storedIn(MessageCoder coder) {
